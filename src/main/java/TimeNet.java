@@ -93,7 +93,7 @@ public final class TimeNet {
         }
         requireWithin(there, 0, MOST_DELAY);
         requireWithin(back, 0, MOST_DELAY);
-        if (wires.join(one, other)) {
+        if (wires.areLinked(one, other)) {
             throw new IllegalStateException("they are linked");
         }
         wires.lay(one, other, there, back);
@@ -117,7 +117,7 @@ public final class TimeNet {
         requireNode(other);
         requireWithin(difference, -MOST_DIFFERENCE, MOST_DIFFERENCE);
         requireLinked(one, other);
-        return wires.note(one, other, difference);
+        return wires.noteDifference(one, other, difference);
     }
 
     public int tick(int ticks) throws IllegalArgumentException {
@@ -238,7 +238,7 @@ public final class TimeNet {
     }
 
     private void requireLinked(int one, int other) {
-        if (!wires.join(one, other)) {
+        if (!wires.areLinked(one, other)) {
             throw new IllegalStateException("they are not linked");
         }
     }
@@ -246,7 +246,7 @@ public final class TimeNet {
     // ---- how clocks are announced
 
     private boolean areNeighbours(int one, int other) {
-        return domainOf[one] == domainOf[other] && wires.join(one, other);
+        return domainOf[one] == domainOf[other] && wires.areLinked(one, other);
     }
 
     /** The lower the better: by class, then by variance, then by number. */
@@ -398,7 +398,7 @@ public final class TimeNet {
             return from * MOST_NODES + to;
         }
 
-        private boolean join(int one, int other) {
+        private boolean areLinked(int one, int other) {
             return laid[place(one, other)];
         }
 
@@ -407,7 +407,7 @@ public final class TimeNet {
             laid[place(other, one)] = true;
             delay[place(one, other)] = there;
             delay[place(other, one)] = back;
-            note(one, other, 0);
+            noteDifference(one, other, 0);
             count++;
         }
 
@@ -417,8 +417,8 @@ public final class TimeNet {
             count--;
         }
 
-        /** Answers what was told before. */
-        private int note(int from, int to, int difference) {
+        // Kept under both signs, so that no reader needs to know which number is the lower one.
+        private int noteDifference(int from, int to, int difference) {
             int before = told[place(from, to)];
             told[place(from, to)] = difference;
             told[place(to, from)] = -difference;

@@ -143,6 +143,9 @@ public final class KnowledgeTest {
         known("13: nine steps are known", ten, 0, 9, 9, 1);
         check.due("17: nine steps by the graph", ten.stepsByGraph(0), 9);
         check.due("18: settled at nine steps", ten.isSettled(), true);
+        ten.setOffset(0, 64);
+        ten.tick(1);
+        check.due("9: steered at nine steps too", ten.offset(0), 32);
     }
 
     private void promise15Ports() {
@@ -165,6 +168,14 @@ public final class KnowledgeTest {
         check.due("15: fewer steps", net.port(2, 3), TimeNet.LEADS);
         check.due("15: more steps", net.port(3, 2), TimeNet.RESTS);
         check.due("15: not linked", net.port(0, 3), TimeNet.NO_PORT);
+        TimeNet ring = nodes(9, 9, 9, 0);
+        ring.link(0, 1, 0, 0);
+        ring.link(0, 2, 0, 0);
+        ring.link(1, 3, 0, 0);
+        ring.link(2, 3, 0, 0);
+        ring.tick(2);
+        check.due("15: fewer steps, higher number", ring.port(2, 0), TimeNet.LEADS);
+        check.due("15: more steps, lower number", ring.port(0, 2), TimeNet.RESTS);
         check.due("15: no link at all", net.port(4, 0), TimeNet.NO_PORT);
         check.due("15: the same", net.port(1, 1), TimeNet.NO_PORT);
         check.due("15: of another domain", net.port(0, 5), TimeNet.NO_PORT);
@@ -191,6 +202,24 @@ public final class KnowledgeTest {
         check.due("13: and is as far as it is", net.steps(0), 3);
         check.due("15: still it follows", net.port(0, 1), TimeNet.FOLLOWS);
         check.due("15: still it is led", net.port(1, 0), TimeNet.LEADS);
+    }
+
+    /** Both know three steps then, so the child, with the lower number, is steered ahead of its parent. */
+    private void promise9TheLowerNumberFirst() {
+        TimeNet net = line(9, 5, 8);
+        net.tick(1);
+        net.add(0, 3, 0, 0);
+        net.add(0, 2, 0, 0);
+        net.link(2, 3, 0, 0);
+        net.link(3, 4, 0, 0);
+        net.tick(2);
+        net.setOffset(1, 64);
+        net.tick(1);
+        check.due("13: the child", net.steps(0), 3);
+        check.due("13: the parent", net.steps(1), 3);
+        check.due("14: the parent", net.parent(0), 1);
+        check.due("9: the child measures what the parent was", net.offset(0), 32);
+        check.due("9: the parent is steered next", net.offset(1), 32);
     }
 
     /** Node 1 takes from node 2 what that no longer knows, while node 2 takes from node 1: both are parents. */
@@ -254,6 +283,10 @@ public final class KnowledgeTest {
         check.due("18: when the steps are more than need be", net.isSettled(), false);
         net.tick(1);
         check.due("18: when they are the fewest", net.isSettled(), true);
+        TimeNet other = line(0, 1, 4);
+        other.tick(1);
+        other.link(0, 2, 0, 0);
+        check.due("18: one knows another clock, as far as the best", other.isSettled(), false);
         net.setClock(0, 0, 0);
         check.due("18: the node and the steps alone count", net.isSettled(), true);
         net.setClock(2, 0, 0);
@@ -280,6 +313,7 @@ public final class KnowledgeTest {
         test.notFromThoseThatKnewNineSteps();
         test.promise15Ports();
         test.promise15ParentsComeBeforeSteps();
+        test.promise9TheLowerNumberFirst();
         test.promise15BothAreParents();
         test.promises16And17ByGraph();
         test.promise18Settled();

@@ -282,6 +282,13 @@ public final class PromisesTest {
         // 31 + 1 - 1 = 31: 15 and 1.
         check.due("9: half of 31", net.offset(1), 17);
         check.due("9: a 16th of 31", net.rate(1), 0);
+        TimeNet told = pair();
+        told.link(0, 1, 1, 0);
+        told.tell(0, 1, -1);
+        told.setOffset(1, 1);
+        told.tick(1);
+        // The error is (1 + 1) / 2 = 1, rounded once; 2 is measured.
+        check.due("9: the told difference is taken off ahead of the rounding", told.offset(1), 0);
     }
 
     private void promises10And11Counts() {
