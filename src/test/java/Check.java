@@ -4,6 +4,14 @@ final class Check {
         long answer();
     }
 
+    interface Maker {
+        TimeNet make();
+    }
+
+    interface CallOn {
+        long answer(TimeNet net);
+    }
+
     private final String test;
     private int checked = 0;
     private int wrong = 0;
@@ -28,11 +36,23 @@ final class Check {
         }
     }
 
-    /** The call is to throw this exception, no subclass of it, and to leave all that can be asked as it was. */
-    void refused(String what, Class<? extends RuntimeException> kind, TimeNet net, Call call) {
-        String before = State.of(net);
+    void known(String what, TimeNet net, int node, int best, int steps, int parent) {
+        due(what + ": best(" + node + ")", net.best(node), best);
+        due(what + ": steps(" + node + ")", net.steps(node), steps);
+        due(what + ": parent(" + node + ")", net.parent(node), parent);
+    }
+
+    /** The call is to throw this exception and no subclass of it. */
+    void thrown(String what, Class<? extends RuntimeException> kind, Call call) {
         judge(what, outcome(call), "throws " + kind.getName());
-        judge("after " + what + ", the state", State.of(net), before);
+    }
+
+    /** The same, and the net is to answer from then on as its twin does, which never heard the call. */
+    void refused(String what, Class<? extends RuntimeException> kind, Maker maker, CallOn call) {
+        TimeNet net = maker.make();
+        TimeNet twin = maker.make();
+        thrown(what, kind, () -> call.answer(net));
+        judge("after " + what + ", the net", State.ofAllThatIsHeld(net), State.ofAllThatIsHeld(twin));
     }
 
     static String outcome(Call call) {

@@ -4,51 +4,29 @@ public final class KnowledgeTest {
 
     private final Check check = new Check("KnowledgeTest");
 
-    private static TimeNet nodes(int... grades) {
-        TimeNet net = new TimeNet();
-        for (int grade : grades) {
-            net.add(0, grade, 0, 0);
-        }
-        return net;
-    }
-
-    private static TimeNet line(int... grades) {
-        TimeNet net = nodes(grades);
-        for (int node = 1; node < grades.length; node++) {
-            net.link(node - 1, node, 0, 0);
-        }
-        return net;
-    }
-
-    private void known(String what, TimeNet net, int node, int best, int steps, int parent) {
-        check.due(what + ": best(" + node + ")", net.best(node), best);
-        check.due(what + ": steps(" + node + ")", net.steps(node), steps);
-        check.due(what + ": parent(" + node + ")", net.parent(node), parent);
-    }
-
     private void noSuchNode() {
-        TimeNet net = line(1, 2, 3);
+        TimeNet net = Nets.line(1, 2, 3);
         for (int node : new int[] {-1, 3, 10, Integer.MIN_VALUE, Integer.MAX_VALUE}) {
-            check.refused("12: no node " + node, NO_NODE, net, () -> net.best(node));
-            check.refused("13: no node " + node, NO_NODE, net, () -> net.steps(node));
-            check.refused("14: no node " + node, NO_NODE, net, () -> net.parent(node));
-            check.refused("15: no node " + node, NO_NODE, net, () -> net.port(node, 0));
-            check.refused("15: no other node " + node, NO_NODE, net, () -> net.port(0, node));
-            check.refused("15: no such node twice " + node, NO_NODE, net, () -> net.port(node, node));
-            check.refused("16: no node " + node, NO_NODE, net, () -> net.bestByGraph(node));
-            check.refused("17: no node " + node, NO_NODE, net, () -> net.stepsByGraph(node));
+            check.thrown("12: no node " + node, NO_NODE, () -> net.best(node));
+            check.thrown("13: no node " + node, NO_NODE, () -> net.steps(node));
+            check.thrown("14: no node " + node, NO_NODE, () -> net.parent(node));
+            check.thrown("15: no node " + node, NO_NODE, () -> net.port(node, 0));
+            check.thrown("15: no other node " + node, NO_NODE, () -> net.port(0, node));
+            check.thrown("15: no such node twice " + node, NO_NODE, () -> net.port(node, node));
+            check.thrown("16: no node " + node, NO_NODE, () -> net.bestByGraph(node));
+            check.thrown("17: no node " + node, NO_NODE, () -> net.stepsByGraph(node));
         }
     }
 
     private void aStepEachTick() {
-        TimeNet net = line(1, 2, 3);
-        known("12 to 14, ahead of ticks", net, 2, 2, 0, -1);
+        TimeNet net = Nets.line(1, 2, 3);
+        check.known("12 to 14, ahead of ticks", net, 2, 2, 0, -1);
         net.tick(1);
-        known("12 to 14, a neighbour's own clock comes in one tick", net, 1, 0, 1, 0);
-        known("12 to 14, and none from further", net, 2, 1, 1, 1);
+        check.known("12 to 14, a neighbour's own clock comes in one tick", net, 1, 0, 1, 0);
+        check.known("12 to 14, and none from further", net, 2, 1, 1, 1);
         net.tick(1);
-        known("12 to 14, two steps in two ticks", net, 2, 0, 2, 1);
-        known("12 to 14, the best itself", net, 0, 0, 0, -1);
+        check.known("12 to 14, two steps in two ticks", net, 2, 0, 2, 1);
+        check.known("12 to 14, the best itself", net, 0, 0, 0, -1);
     }
 
     private void theBetterClock() {
@@ -59,67 +37,67 @@ public final class KnowledgeTest {
         net.link(0, 1, 0, 0);
         net.link(0, 2, 0, 0);
         net.tick(1);
-        known("the class comes first", net, 0, 1, 1, 1);
+        check.known("the class comes first", net, 0, 1, 1, 1);
         net.setClock(1, 9, 1);
         // Node 2 lets the old clock go in the third tick; its own is two steps from node 1.
         net.tick(5);
-        known("then the variance", net, 1, 2, 2, 0);
+        check.known("then the variance", net, 1, 2, 2, 0);
         net.setClock(1, 9, 0);
         net.tick(3);
-        known("then the lower node", net, 2, 1, 2, 0);
+        check.known("then the lower node", net, 2, 1, 2, 0);
         net.setClock(0, 9, 0);
         net.tick(1);
-        known("its own, of equals, when it is lower", net, 0, 0, 0, -1);
+        check.known("its own, of equals, when it is lower", net, 0, 0, 0, -1);
     }
 
     /** Node 4 is two steps from node 0 over 1, 2 or 3, and hears them at once. */
     private void theLowerNeighbour() {
-        TimeNet net = nodes(0, 5, 5, 5, 9);
+        TimeNet net = Nets.nodes(0, 5, 5, 5, 9);
         net.link(4, 3, 0, 0);
         net.link(4, 2, 0, 0);
         net.link(0, 2, 0, 0);
         net.link(3, 0, 0, 0);
         net.tick(2);
-        known("of equals the lower neighbour", net, 4, 0, 2, 2);
+        check.known("of equals the lower neighbour", net, 4, 0, 2, 2);
         net.link(4, 1, 0, 0);
         net.link(1, 0, 0, 0);
         net.tick(2);
-        known("that comes later too", net, 4, 0, 2, 1);
+        check.known("that comes later too", net, 4, 0, 2, 1);
         net.link(0, 4, 0, 0);
         net.tick(1);
-        known("fewer steps come before", net, 4, 0, 1, 0);
+        check.known("fewer steps come before", net, 4, 0, 1, 0);
     }
 
     private void fewerStepsComeBeforeTheLowerNeighbour() {
-        TimeNet net = nodes(9, 9, 9, 0);
+        TimeNet net = Nets.nodes(9, 9, 9, 0);
         net.link(0, 1, 0, 0);
         net.link(1, 3, 0, 0);
         net.link(0, 2, 0, 0);
         net.link(2, 1, 0, 0);
         net.tick(2);
-        known("two steps over node 1", net, 0, 3, 2, 1);
+        check.known("two steps over node 1", net, 0, 3, 2, 1);
         net.cut(1, 3);
         net.link(2, 3, 0, 0);
         net.tick(6);
-        known("two steps over node 2, three over node 1", net, 0, 3, 2, 2);
+        check.known("two steps over node 2, three over node 1", net, 0, 3, 2, 2);
     }
 
     private void notFromThoseWhoseParentItIs() {
-        TimeNet net = line(0, 5);
+        TimeNet net = Nets.line(0, 5);
         net.tick(1);
-        known("14: a child", net, 1, 0, 1, 0);
+        check.known("14: a child", net, 1, 0, 1, 0);
         net.setClock(0, 200, 0);
         net.tick(1);
-        known("its own clock does not come back from its child", net, 0, 0, 0, -1);
-        known("the child knew it as it was", net, 1, 0, 1, 0);
+        check.known("its own clock does not come back from its child", net, 0, 0, 0, -1);
+        check.known("the child knew it as it was", net, 1, 0, 1, 0);
         net.tick(1);
-        known("the child hears what it is", net, 1, 1, 0, -1);
+        check.known("the child hears what it is", net, 1, 1, 0, -1);
         net.tick(1);
-        known("and becomes the parent", net, 0, 1, 1, 1);
+        check.known("and becomes the parent", net, 0, 1, 1, 1);
     }
 
     private void notFromThoseThatKnewNineSteps() {
-        TimeNet net = nodes(0, 9, 9, 9);
+        TimeNet net = Nets.nodes(0, 9, 9, 9);
         net.link(0, 1, 0, 0);
         net.link(1, 2, 0, 0);
         net.link(2, 3, 0, 0);
@@ -137,10 +115,10 @@ public final class KnowledgeTest {
         }
         check.due("a clock that is gone goes round up to 9 steps", most, 9);
         check.due("it was the one that is gone", sawNine, true);
-        known("and is forgotten then", net, 3, 1, 1, 1);
-        TimeNet ten = line(9, 8, 8, 8, 8, 8, 8, 8, 8, 0);
+        check.known("and is forgotten then", net, 3, 1, 1, 1);
+        TimeNet ten = Nets.line(9, 8, 8, 8, 8, 8, 8, 8, 8, 0);
         ten.tick(9);
-        known("13: nine steps are known", ten, 0, 9, 9, 1);
+        check.known("13: nine steps are known", ten, 0, 9, 9, 1);
         check.due("17: nine steps by the graph", ten.stepsByGraph(0), 9);
         check.due("18: settled at nine steps", ten.isSettled(), true);
         ten.setOffset(0, 64);
@@ -149,7 +127,7 @@ public final class KnowledgeTest {
     }
 
     private void promise15Ports() {
-        TimeNet net = nodes(1, 9, 9, 9, 9);
+        TimeNet net = Nets.nodes(1, 9, 9, 9, 9);
         net.add(1, 0, 0, 0);
         net.link(0, 1, 0, 0);
         net.link(0, 2, 0, 0);
@@ -168,7 +146,7 @@ public final class KnowledgeTest {
         check.due("15: fewer steps", net.port(2, 3), TimeNet.LEADS);
         check.due("15: more steps", net.port(3, 2), TimeNet.RESTS);
         check.due("15: not linked", net.port(0, 3), TimeNet.NO_PORT);
-        TimeNet ring = nodes(9, 9, 9, 0);
+        TimeNet ring = Nets.nodes(9, 9, 9, 0);
         ring.link(0, 1, 0, 0);
         ring.link(0, 2, 0, 0);
         ring.link(1, 3, 0, 0);
@@ -189,15 +167,15 @@ public final class KnowledgeTest {
 
     /** A parent may know as many steps as its child, which hears a tick later, and have the higher number: it leads. */
     private void promise15ParentsComeBeforeSteps() {
-        TimeNet net = line(9, 5, 8);
+        TimeNet net = Nets.line(9, 5, 8);
         net.tick(1);
-        known("14: a child of node 1", net, 0, 1, 1, 1);
+        check.known("14: a child of node 1", net, 0, 1, 1, 1);
         net.add(0, 3, 0, 0);
         net.add(0, 2, 0, 0);
         net.link(2, 3, 0, 0);
         net.link(3, 4, 0, 0);
         net.tick(3);
-        known("14: a parent over three steps", net, 1, 4, 3, 2);
+        check.known("14: a parent over three steps", net, 1, 4, 3, 2);
         check.due("12: its child hears from it a tick later", net.best(0), 3);
         check.due("13: and is as far as it is", net.steps(0), 3);
         check.due("15: still it follows", net.port(0, 1), TimeNet.FOLLOWS);
@@ -206,7 +184,7 @@ public final class KnowledgeTest {
 
     /** Both know three steps then, so the child, with the lower number, is steered ahead of its parent. */
     private void promise9TheLowerNumberFirst() {
-        TimeNet net = line(9, 5, 8);
+        TimeNet net = Nets.line(9, 5, 8);
         net.tick(1);
         net.add(0, 3, 0, 0);
         net.add(0, 2, 0, 0);
@@ -224,28 +202,28 @@ public final class KnowledgeTest {
 
     /** Node 1 takes from node 2 what that no longer knows, while node 2 takes from node 1: both are parents. */
     private void promise15BothAreParents() {
-        TimeNet net = nodes(0, 9, 9, 1);
+        TimeNet net = Nets.nodes(0, 9, 9, 1);
         net.link(0, 1, 0, 0);
         net.link(2, 3, 0, 0);
         net.tick(1);
-        known("14: on the one side", net, 1, 0, 1, 0);
-        known("14: on the other side", net, 2, 3, 1, 3);
+        check.known("14: on the one side", net, 1, 0, 1, 0);
+        check.known("14: on the other side", net, 2, 3, 1, 3);
         net.setClock(0, 200, 0);
         net.tick(1);
-        known("14: as it was", net, 1, 0, 1, 0);
+        check.known("14: as it was", net, 1, 0, 1, 0);
         net.link(1, 2, 0, 0);
         net.tick(1);
-        known("14: a parent", net, 1, 3, 2, 2);
-        known("14: of its parent", net, 2, 0, 2, 1);
+        check.known("14: a parent", net, 1, 3, 2, 2);
+        check.known("14: of its parent", net, 2, 0, 2, 1);
         check.due("15: both follow", net.port(1, 2), TimeNet.FOLLOWS);
         check.due("15: both follow", net.port(2, 1), TimeNet.FOLLOWS);
         check.due("7: cut between them", net.cut(1, 2), 2);
-        known("7: both know themselves", net, 1, 1, 0, -1);
-        known("7: both know themselves", net, 2, 2, 0, -1);
+        check.known("7: both know themselves", net, 1, 1, 0, -1);
+        check.known("7: both know themselves", net, 2, 2, 0, -1);
     }
 
     private void promises16And17ByGraph() {
-        TimeNet net = nodes(9, 5, 5, 7);
+        TimeNet net = Nets.nodes(9, 5, 5, 7);
         check.due("16: alone", net.bestByGraph(0), 0);
         check.due("17: alone", net.stepsByGraph(0), 0);
         net.link(0, 3, 0, 0);
@@ -273,7 +251,7 @@ public final class KnowledgeTest {
     }
 
     private void promise18Settled() {
-        TimeNet net = line(1, 2, 3);
+        TimeNet net = Nets.line(1, 2, 3);
         check.due("18: ahead of ticks", net.isSettled(), false);
         net.tick(1);
         check.due("18: when one lacks a step", net.isSettled(), false);
@@ -283,7 +261,7 @@ public final class KnowledgeTest {
         check.due("18: when the steps are more than need be", net.isSettled(), false);
         net.tick(1);
         check.due("18: when they are the fewest", net.isSettled(), true);
-        TimeNet other = line(0, 1, 4);
+        TimeNet other = Nets.line(0, 1, 4);
         other.tick(1);
         other.link(0, 2, 0, 0);
         check.due("18: one knows another clock, as far as the best", other.isSettled(), false);

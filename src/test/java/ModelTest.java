@@ -1,7 +1,8 @@
 /** Long runs of calls, made by a fixed rule, each answered by the class and by the model alike. */
 public final class ModelTest {
-    private static final int RUNS = 400;
-    private static final int CALLS = 512;
+    private static final int RUNS = 1500;
+    // An object is good for 512 calls, and State.of makes up to 175 of them at the end.
+    private static final int MOST_CALLS = 512 - 175;
 
     private long seed;
     private TimeNet net;
@@ -146,28 +147,34 @@ public final class ModelTest {
         return text.toString();
     }
 
+    private void ask() {
+        switch (upTo(5)) {
+            case 0: pass(); break;
+            case 1: look(); break;
+            default: build();
+        }
+    }
+
+    private void askForANode() {
+        int d = domain(), g = grade(), v = variance();
+        ask("add(" + d + ", " + g + ", " + v + ", 1)", () -> net.add(d, g, v, 1), () -> model.add(d, g, v, 1));
+    }
+
     private void run(Check check, int number) {
         int firstNodes = upTo(11);
-        for (int n = 0; n < CALLS; n++) {
+        int calls = firstNodes + upTo(MOST_CALLS - firstNodes + 1);
+        for (int n = 0; n < calls; n++) {
             if (n < firstNodes) {
-                int d = domain(), g = grade(), v = variance();
-                ask("add(" + d + ", " + g + ", " + v + ", 1)", () -> net.add(d, g, v, 1), () -> model.add(d, g, v, 1));
+                askForANode();
             } else {
-                switch (upTo(5)) {
-                    case 0: pass(); break;
-                    case 1: look(); break;
-                    default: build();
-                }
+                ask();
             }
             check.judge("run " + number + ", call " + n + ", " + call, got, due);
             if (!got.equals(due)) {
                 return;
             }
-            if (n % 8 == 0) {
-                check.judge("run " + number + ", after call " + n + ", " + call + ", the state",
-                    State.of(net), stateOfModel());
-            }
         }
+        check.judge("run " + number + ", after all " + calls + " calls, the state", State.of(net), stateOfModel());
     }
 
     public static void main(String[] args) {

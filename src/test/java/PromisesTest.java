@@ -8,10 +8,7 @@ public final class PromisesTest {
     private final Check check = new Check("PromisesTest");
 
     private static TimeNet pair() {
-        TimeNet net = new TimeNet();
-        net.add(0, 1, 0, 0);
-        net.add(0, 2, 0, 0);
-        return net;
+        return Nets.nodes(1, 2);
     }
 
     private void promise1New() {
@@ -20,7 +17,7 @@ public final class PromisesTest {
         check.due("1: links of a new net", net.links(), 0);
         check.due("1: a new net is settled", net.isSettled(), true);
         check.due("1: spread of a new net", net.spread(0) + net.spread(1), 0);
-        check.refused("1: best(0) of a new net", NO_NODE, net, () -> net.best(0));
+        check.thrown("1: best(0) of a new net", NO_NODE, () -> net.best(0));
         check.due("1: the first tick", net.tick(1), 1);
         check.due("1: another net has nodes of its own", pair().nodes() + new TimeNet().nodes(), 2);
     }
@@ -34,22 +31,22 @@ public final class PromisesTest {
         check.due("2: without parent", net.parent(1), -1);
         check.due("2: offset at first", net.offset(1), 0);
         check.due("2: rate at first", net.rate(1), 0);
-        check.refused("2: domain -1", RANGE, net, () -> net.add(-1, 0, 0, 0));
-        check.refused("2: domain 2", RANGE, net, () -> net.add(2, 0, 0, 0));
-        check.refused("2: grade -1", RANGE, net, () -> net.add(0, -1, 0, 0));
-        check.refused("2: grade 256", RANGE, net, () -> net.add(0, 256, 0, 0));
-        check.refused("2: variance -1", RANGE, net, () -> net.add(0, 0, -1, 0));
-        check.refused("2: variance 1001", RANGE, net, () -> net.add(0, 0, 1001, 0));
-        check.refused("2: drift -101", RANGE, net, () -> net.add(0, 0, 0, -101));
-        check.refused("2: drift 101", RANGE, net, () -> net.add(0, 0, 0, 101));
+        check.thrown("2: domain -1", RANGE, () -> net.add(-1, 0, 0, 0));
+        check.thrown("2: domain 2", RANGE, () -> net.add(2, 0, 0, 0));
+        check.thrown("2: grade -1", RANGE, () -> net.add(0, -1, 0, 0));
+        check.thrown("2: grade 256", RANGE, () -> net.add(0, 256, 0, 0));
+        check.thrown("2: variance -1", RANGE, () -> net.add(0, 0, -1, 0));
+        check.thrown("2: variance 1001", RANGE, () -> net.add(0, 0, 1001, 0));
+        check.thrown("2: drift -101", RANGE, () -> net.add(0, 0, 0, -101));
+        check.thrown("2: drift 101", RANGE, () -> net.add(0, 0, 0, 101));
         net.tick(1);
         check.due("2: drift -100", net.offset(0), -100);
         check.due("2: drift 100", net.offset(1), 100);
         for (int node = 2; node < 10; node++) {
             check.due("2: number", net.add(0, 5, 5, 5), node);
         }
-        check.refused("2: an eleventh", STATE, net, () -> net.add(0, 0, 0, 0));
-        check.refused("2: an eleventh out of range", RANGE, net, () -> net.add(2, 0, 0, 0));
+        check.thrown("2: an eleventh", STATE, () -> net.add(0, 0, 0, 0));
+        check.thrown("2: an eleventh out of range", RANGE, () -> net.add(2, 0, 0, 0));
     }
 
     private void promise3SetClock() {
@@ -68,12 +65,12 @@ public final class PromisesTest {
         net.setClock(0, 255, 1);
         check.due("3: the variance counts", net.bestByGraph(0), 1);
         for (int node : NO_NODES) {
-            check.refused("3: no node " + node, NO_NODE, net, () -> net.setClock(node, 256, -1));
+            check.thrown("3: no node " + node, NO_NODE, () -> net.setClock(node, 256, -1));
         }
-        check.refused("3: grade -1", RANGE, net, () -> net.setClock(0, -1, 0));
-        check.refused("3: grade 256", RANGE, net, () -> net.setClock(0, 256, 0));
-        check.refused("3: variance -1", RANGE, net, () -> net.setClock(0, 0, -1));
-        check.refused("3: variance 1001", RANGE, net, () -> net.setClock(0, 0, 1001));
+        check.thrown("3: grade -1", RANGE, () -> net.setClock(0, -1, 0));
+        check.thrown("3: grade 256", RANGE, () -> net.setClock(0, 256, 0));
+        check.thrown("3: variance -1", RANGE, () -> net.setClock(0, 0, -1));
+        check.thrown("3: variance 1001", RANGE, () -> net.setClock(0, 0, 1001));
     }
 
     private void promise4SetDrift() {
@@ -85,10 +82,10 @@ public final class PromisesTest {
         check.due("4: grows by the drift", net.offset(1), 300);
         check.due("4: the rate is another thing", net.rate(1), 0);
         for (int node : NO_NODES) {
-            check.refused("4: no node " + node, NO_NODE, net, () -> net.setDrift(node, 101));
+            check.thrown("4: no node " + node, NO_NODE, () -> net.setDrift(node, 101));
         }
-        check.refused("4: drift -101", RANGE, net, () -> net.setDrift(1, -101));
-        check.refused("4: drift 101", RANGE, net, () -> net.setDrift(1, 101));
+        check.thrown("4: drift -101", RANGE, () -> net.setDrift(1, -101));
+        check.thrown("4: drift 101", RANGE, () -> net.setDrift(1, 101));
         check.due("4: a refused drift changes nothing", net.setDrift(1, 0), 100);
     }
 
@@ -101,34 +98,34 @@ public final class PromisesTest {
         net.tick(1);
         check.due("5: it may pass the range by ticks", net.setOffset(1, 7), -1000100);
         for (int node : NO_NODES) {
-            check.refused("5: no node " + node, NO_NODE, net, () -> net.setOffset(node, 1000001));
+            check.thrown("5: no node " + node, NO_NODE, () -> net.setOffset(node, 1000001));
         }
-        check.refused("5: offset -1000001", RANGE, net, () -> net.setOffset(1, -1000001));
-        check.refused("5: offset 1000001", RANGE, net, () -> net.setOffset(1, 1000001));
+        check.thrown("5: offset -1000001", RANGE, () -> net.setOffset(1, -1000001));
+        check.thrown("5: offset 1000001", RANGE, () -> net.setOffset(1, 1000001));
     }
 
     private void promise6Link() {
         TimeNet net = pair();
         for (int node : NO_NODES) {
-            check.refused("6: no node " + node, NO_NODE, net, () -> net.link(node, 0, -1, 0));
-            check.refused("6: no other node " + node, NO_NODE, net, () -> net.link(0, node, -1, 0));
-            check.refused("6: no such node twice " + node, NO_NODE, net, () -> net.link(node, node, 0, 0));
+            check.thrown("6: no node " + node, NO_NODE, () -> net.link(node, 0, -1, 0));
+            check.thrown("6: no other node " + node, NO_NODE, () -> net.link(0, node, -1, 0));
+            check.thrown("6: no such node twice " + node, NO_NODE, () -> net.link(node, node, 0, 0));
         }
-        check.refused("6: both the same", RANGE, net, () -> net.link(1, 1, 0, 0));
-        check.refused("6: there -1", RANGE, net, () -> net.link(0, 1, -1, 0));
-        check.refused("6: there 100001", RANGE, net, () -> net.link(0, 1, 100001, 0));
-        check.refused("6: back -1", RANGE, net, () -> net.link(0, 1, 0, -1));
-        check.refused("6: back 100001", RANGE, net, () -> net.link(0, 1, 0, 100001));
+        check.thrown("6: both the same", RANGE, () -> net.link(1, 1, 0, 0));
+        check.thrown("6: there -1", RANGE, () -> net.link(0, 1, -1, 0));
+        check.thrown("6: there 100001", RANGE, () -> net.link(0, 1, 100001, 0));
+        check.thrown("6: back -1", RANGE, () -> net.link(0, 1, 0, -1));
+        check.thrown("6: back 100001", RANGE, () -> net.link(0, 1, 0, 100001));
         check.due("6: the first", net.link(1, 0, 0, 100000), 1);
-        check.refused("6: linked", STATE, net, () -> net.link(1, 0, 0, 0));
-        check.refused("6: linked the other way", STATE, net, () -> net.link(0, 1, 0, 0));
-        check.refused("6: linked and out of range", RANGE, net, () -> net.link(0, 1, 0, 100001));
+        check.thrown("6: linked", STATE, () -> net.link(1, 0, 0, 0));
+        check.thrown("6: linked the other way", STATE, () -> net.link(0, 1, 0, 0));
+        check.thrown("6: linked and out of range", RANGE, () -> net.link(0, 1, 0, 100001));
         net.tick(1);
         check.due("6: the delays, of there and back, are those of the first link", net.offset(1), -25000);
         net.add(1, 0, 0, 0);
         check.due("6: over domains", net.link(0, 2, 100000, 0), 2);
         check.due("6: over domains nothing is carried", net.bestByGraph(0), 0);
-        check.refused("6: over domains linked", STATE, net, () -> net.link(2, 0, 0, 0));
+        check.thrown("6: over domains linked", STATE, () -> net.link(2, 0, 0, 0));
     }
 
     private void promise7Cut() {
@@ -139,11 +136,11 @@ public final class PromisesTest {
         net.tell(0, 1, 6);
         net.tick(2);
         for (int node : new int[] {-1, 3, 10, Integer.MIN_VALUE, Integer.MAX_VALUE}) {
-            check.refused("7: no node " + node, NO_NODE, net, () -> net.cut(node, 0));
-            check.refused("7: no other node " + node, NO_NODE, net, () -> net.cut(0, node));
+            check.thrown("7: no node " + node, NO_NODE, () -> net.cut(node, 0));
+            check.thrown("7: no other node " + node, NO_NODE, () -> net.cut(0, node));
         }
-        check.refused("7: not linked", STATE, net, () -> net.cut(0, 2));
-        check.refused("7: the same", STATE, net, () -> net.cut(1, 1));
+        check.thrown("7: not linked", STATE, () -> net.cut(0, 2));
+        check.thrown("7: the same", STATE, () -> net.cut(1, 1));
         net.setClock(1, 1, 1);
         net.setClock(2, 1, 0);
         check.due("7: links then", net.cut(1, 0), 1);
@@ -152,7 +149,7 @@ public final class PromisesTest {
         check.due("7: without parent", net.parent(1), -1);
         check.due("7: the child of the child knows the old one", net.best(2), 0);
         check.due("7: and its parent", net.parent(2), 1);
-        check.refused("7: cut already", STATE, net, () -> net.cut(0, 1));
+        check.thrown("7: cut already", STATE, () -> net.cut(0, 1));
         net.tick(1);
         check.due("7: by its class of now, not that of the child's child", net.best(1), 1);
         check.due("7: known as of now", net.best(2), 2);
@@ -190,13 +187,13 @@ public final class PromisesTest {
         TimeNet net = pair();
         net.link(1, 0, 7, 2);
         for (int node : NO_NODES) {
-            check.refused("8: no node " + node, NO_NODE, net, () -> net.tell(node, 0, 100001));
-            check.refused("8: no other node " + node, NO_NODE, net, () -> net.tell(0, node, 100001));
+            check.thrown("8: no node " + node, NO_NODE, () -> net.tell(node, 0, 100001));
+            check.thrown("8: no other node " + node, NO_NODE, () -> net.tell(0, node, 100001));
         }
-        check.refused("8: -100001", RANGE, net, () -> net.tell(0, 1, -100001));
-        check.refused("8: 100001", RANGE, net, () -> net.tell(0, 1, 100001));
-        check.refused("8: out of range for the same", RANGE, net, () -> net.tell(0, 0, 100001));
-        check.refused("8: the same", STATE, net, () -> net.tell(0, 0, 0));
+        check.thrown("8: -100001", RANGE, () -> net.tell(0, 1, -100001));
+        check.thrown("8: 100001", RANGE, () -> net.tell(0, 1, 100001));
+        check.thrown("8: out of range for the same", RANGE, () -> net.tell(0, 0, 100001));
+        check.thrown("8: the same", STATE, () -> net.tell(0, 0, 0));
         check.due("8: nothing is told at first", net.tell(1, 0, -100000), 0);
         check.due("8: the other sign the other way", net.tell(0, 1, 100000), 100000);
         check.due("8: the same sign the same way", net.tell(0, 1, -5), 100000);
@@ -209,19 +206,19 @@ public final class PromisesTest {
         check.due("8: told wrong, they spoil it twice", net.offset(1), 2);
         check.due("8: a 16th of 5 is 0", net.rate(1), 0);
         net.cut(0, 1);
-        check.refused("8: not linked", STATE, net, () -> net.tell(0, 1, 0));
-        check.refused("8: not linked and out of range", RANGE, net, () -> net.tell(0, 1, 100001));
+        check.thrown("8: not linked", STATE, () -> net.tell(0, 1, 0));
+        check.thrown("8: not linked and out of range", RANGE, () -> net.tell(0, 1, 100001));
     }
 
     private void promise9Tick() {
         TimeNet net = pair();
-        check.refused("9: 0", RANGE, net, () -> net.tick(0));
-        check.refused("9: 51", RANGE, net, () -> net.tick(51));
-        check.refused("9: -1", RANGE, net, () -> net.tick(-1));
-        check.refused("9: the least number", RANGE, net, () -> net.tick(Integer.MIN_VALUE));
+        check.thrown("9: 0", RANGE, () -> net.tick(0));
+        check.thrown("9: 51", RANGE, () -> net.tick(51));
+        check.thrown("9: -1", RANGE, () -> net.tick(-1));
+        check.thrown("9: the least number", RANGE, () -> net.tick(Integer.MIN_VALUE));
         check.due("9: all ticks", net.tick(1), 1);
         check.due("9: all ticks", net.tick(50), 51);
-        check.refused("9: 51", RANGE, net, () -> net.tick(51));
+        check.thrown("9: 51", RANGE, () -> net.tick(51));
         check.due("9: all ticks", net.tick(2), 53);
     }
 
@@ -327,8 +324,8 @@ public final class PromisesTest {
         net.setOffset(1, 0);
         check.due("20: an offset set leaves the rate", net.rate(1), 10);
         for (int node : NO_NODES) {
-            check.refused("19: no node " + node, NO_NODE, net, () -> net.offset(node));
-            check.refused("20: no node " + node, NO_NODE, net, () -> net.rate(node));
+            check.thrown("19: no node " + node, NO_NODE, () -> net.offset(node));
+            check.thrown("20: no node " + node, NO_NODE, () -> net.rate(node));
         }
     }
 
@@ -364,8 +361,8 @@ public final class PromisesTest {
         net.setOffset(0, -500);
         net.setOffset(4, -430);
         check.due("21: both below 0", net.spread(1), 70);
-        check.refused("21: domain -1", RANGE, net, () -> net.spread(-1));
-        check.refused("21: domain 2", RANGE, net, () -> net.spread(2));
+        check.thrown("21: domain -1", RANGE, () -> net.spread(-1));
+        check.thrown("21: domain 2", RANGE, () -> net.spread(2));
     }
 
     public static void main(String[] args) {
