@@ -433,6 +433,54 @@ public final class EdgesOfKnowledgeTest {
         check.due("15: 1 step each, the higher number", net.port(2, 1), TimeNet.RESTS);
     }
 
+    private void portAfterACut() {
+        TimeNet net = Nets.line(2, 1);
+        net.tick(2);
+        check.due("15: to its child", net.port(1, 0), TimeNet.LEADS);
+        net.cut(0, 1);
+        net.link(0, 1, 0, 0);
+        check.due("15: no longer its child, as many steps, the higher number", net.port(1, 0), TimeNet.RESTS);
+        check.due("15: no longer its parent, as many steps, the lower number", net.port(0, 1), TimeNet.LEADS);
+    }
+
+    /** A parent may know as many steps as its child, which hears a tick later, and have the higher number: it leads. */
+    private void portToAChildOfAsManySteps() {
+        TimeNet net = Nets.line(9, 5, 8);
+        net.tick(1);
+        check.known("a child of node 1", net, 0, 1, 1, 1);
+        net.add(0, 3, 0, 0);
+        net.add(0, 2, 0, 0);
+        net.link(2, 3, 0, 0);
+        net.link(3, 4, 0, 0);
+        net.tick(3);
+        check.known("a parent over three steps", net, 1, 4, 3, 2);
+        check.known("its child, which hears a tick later", net, 0, 3, 3, 1);
+        check.due("15: still it follows", net.port(0, 1), TimeNet.FOLLOWS);
+        check.due("15: still it is led", net.port(1, 0), TimeNet.LEADS);
+    }
+
+    /** Node 1 takes from node 2 what that no longer knows, while node 2 takes from node 1: both are parents. */
+    private void portOfTwoThatAreEachOthersParent() {
+        TimeNet net = Nets.nodes(0, 9, 9, 1);
+        net.link(0, 1, 0, 0);
+        net.link(2, 3, 0, 0);
+        net.tick(1);
+        check.known("on the one side", net, 1, 0, 1, 0);
+        check.known("on the other side", net, 2, 3, 1, 3);
+        net.setClock(0, 200, 0);
+        net.tick(1);
+        check.known("as it was", net, 1, 0, 1, 0);
+        net.link(1, 2, 0, 0);
+        net.tick(1);
+        check.known("a parent", net, 1, 3, 2, 2);
+        check.known("of its parent", net, 2, 0, 2, 1);
+        check.due("15: both follow", net.port(1, 2), TimeNet.FOLLOWS);
+        check.due("15: both follow", net.port(2, 1), TimeNet.FOLLOWS);
+        check.due("7: cut between them", net.cut(1, 2), 2);
+        check.known("7: both know themselves", net, 1, 1, 0, NONE);
+        check.known("7: both know themselves", net, 2, 2, 0, NONE);
+    }
+
     // ---- by the graph
 
     private void byGraphOverNineSteps() {
@@ -543,6 +591,9 @@ public final class EdgesOfKnowledgeTest {
         portToParentAndChild();
         portOfFewerAndMoreSteps();
         portOfAsManySteps();
+        portAfterACut();
+        portToAChildOfAsManySteps();
+        portOfTwoThatAreEachOthersParent();
     }
 
     public static void main(String[] args) {

@@ -165,63 +165,6 @@ public final class KnowledgeTest {
         check.due("15: the child of one without parent", net.port(3, 1), TimeNet.FOLLOWS);
     }
 
-    /** A parent may know as many steps as its child, which hears a tick later, and have the higher number: it leads. */
-    private void promise15ParentsComeBeforeSteps() {
-        TimeNet net = Nets.line(9, 5, 8);
-        net.tick(1);
-        check.known("14: a child of node 1", net, 0, 1, 1, 1);
-        net.add(0, 3, 0, 0);
-        net.add(0, 2, 0, 0);
-        net.link(2, 3, 0, 0);
-        net.link(3, 4, 0, 0);
-        net.tick(3);
-        check.known("14: a parent over three steps", net, 1, 4, 3, 2);
-        check.due("12: its child hears from it a tick later", net.best(0), 3);
-        check.due("13: and is as far as it is", net.steps(0), 3);
-        check.due("15: still it follows", net.port(0, 1), TimeNet.FOLLOWS);
-        check.due("15: still it is led", net.port(1, 0), TimeNet.LEADS);
-    }
-
-    /** Both know three steps then, so the child, with the lower number, is steered ahead of its parent. */
-    private void promise9TheLowerNumberFirst() {
-        TimeNet net = Nets.line(9, 5, 8);
-        net.tick(1);
-        net.add(0, 3, 0, 0);
-        net.add(0, 2, 0, 0);
-        net.link(2, 3, 0, 0);
-        net.link(3, 4, 0, 0);
-        net.tick(2);
-        net.setOffset(1, 64);
-        net.tick(1);
-        check.due("13: the child", net.steps(0), 3);
-        check.due("13: the parent", net.steps(1), 3);
-        check.due("14: the parent", net.parent(0), 1);
-        check.due("9: the child measures what the parent was", net.offset(0), 32);
-        check.due("9: the parent is steered next", net.offset(1), 32);
-    }
-
-    /** Node 1 takes from node 2 what that no longer knows, while node 2 takes from node 1: both are parents. */
-    private void promise15BothAreParents() {
-        TimeNet net = Nets.nodes(0, 9, 9, 1);
-        net.link(0, 1, 0, 0);
-        net.link(2, 3, 0, 0);
-        net.tick(1);
-        check.known("14: on the one side", net, 1, 0, 1, 0);
-        check.known("14: on the other side", net, 2, 3, 1, 3);
-        net.setClock(0, 200, 0);
-        net.tick(1);
-        check.known("14: as it was", net, 1, 0, 1, 0);
-        net.link(1, 2, 0, 0);
-        net.tick(1);
-        check.known("14: a parent", net, 1, 3, 2, 2);
-        check.known("14: of its parent", net, 2, 0, 2, 1);
-        check.due("15: both follow", net.port(1, 2), TimeNet.FOLLOWS);
-        check.due("15: both follow", net.port(2, 1), TimeNet.FOLLOWS);
-        check.due("7: cut between them", net.cut(1, 2), 2);
-        check.known("7: both know themselves", net, 1, 1, 0, -1);
-        check.known("7: both know themselves", net, 2, 2, 0, -1);
-    }
-
     private void promises16And17ByGraph() {
         TimeNet net = Nets.nodes(9, 5, 5, 7);
         check.due("16: alone", net.bestByGraph(0), 0);
@@ -290,9 +233,6 @@ public final class KnowledgeTest {
         test.notFromThoseWhoseParentItIs();
         test.notFromThoseThatKnewNineSteps();
         test.promise15Ports();
-        test.promise15ParentsComeBeforeSteps();
-        test.promise9TheLowerNumberFirst();
-        test.promise15BothAreParents();
         test.promises16And17ByGraph();
         test.promise18Settled();
         test.check.end();
