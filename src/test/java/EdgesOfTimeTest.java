@@ -238,6 +238,26 @@ public final class EdgesOfTimeTest {
         check.due("20: the rate is not touched by that", net.rate(1), 117188);
     }
 
+    /** Long free runs, each ended by one tick of steering, make what is measured grow beyond what a long holds. */
+    private void noOffsetIsTooGreat() {
+        TimeNet net = Nets.line(1, 2);
+        net.setDrift(1, 100);
+        boolean wasGreat = false;
+        for (int round = 0; round < 30; round++) {
+            net.tick(1);
+            net.cut(0, 1);
+            for (int free = 0; free < 3; free++) {
+                check.due("9: ticks, whatever the offset", net.tick(50), round * 151 + 1 + 50 * (free + 1));
+            }
+            net.link(0, 1, 0, 0);
+            long offset = net.offset(1);
+            // Node 0 rests at 0, so that the spread is the offset without its sign.
+            check.due("21: of two, whatever the offset", net.spread(0), Math.abs(offset));
+            wasGreat |= Math.abs(offset / 2) > Long.MAX_VALUE / 4;
+        }
+        check.due("19: an offset came near the greatest long", wasGreat, true);
+    }
+
     // ---- the spread
 
     private void spreadOfFewerThanTwo() {
@@ -306,6 +326,7 @@ public final class EdgesOfTimeTest {
         test.errors();
         test.steeringRoundsTowardZero();
         test.theGreatestOffsets();
+        test.noOffsetIsTooGreat();
         test.spreadOfFewerThanTwo();
         test.spreadOfTwo();
         test.spreadOfTen();
